@@ -981,7 +981,8 @@ public final class SailLoft {
         }
 
         int twiceOfStrip(int y) {
-            return widthAt(y) + widthAt(y + 1);
+            int rights = right.edgeAt(y) + right.edgeAt(y + 1);
+            return rights - left.edgeAt(y) - left.edgeAt(y + 1);
         }
 
         int twiceBetween(int low, int high) {

@@ -143,6 +143,34 @@ public final class PromisesTest {
         due.no("something lies on it", x.row(0, 5));
         x.lift(0, 0);
         due.yes("nothing does", x.row(0, 5));
+        rowsAfterManyActs();
+    }
+
+    // Longer than undo looks back, so that nothing of an older row may come through.
+    private static void rowsAfterManyActs() {
+        SailLoft x = new SailLoft();
+        x.bolt(5, 200, 0);
+        x.sail(0, 5, 0, 5, 60);
+        for (int round = 0; round < 60; round++) {
+            int k = round % 2 == 0 ? 0 : 199;
+            due.yes("row", x.row(0, 200));
+            due.is("first is 0", x.worn(0, 0), 0);
+            due.is("last is 0", x.worn(0, 199), 0);
+            due.yes("wear", x.wear(0, k, 100));
+            due.is("worn", x.worn(0, k), 100);
+            due.yes("edge", x.edge(0, round % 2, 61));
+            due.is("foot", x.at(0, round % 2, 0), round % 2 * 5);
+            due.is("head", x.at(0, round % 2, 60), round % 2 * 5);
+            due.yes("stand at the foot", x.stand(0, round % 2, 0, 200));
+            due.yes("stand at the head", x.stand(0, round % 2, 60, -200));
+            due.is("head", x.at(0, round % 2, 60), round % 2 * 5 - 200);
+        }
+        due.yes("one place", x.row(0, 1));
+        due.yes("is told", x.wear(0, 0, 1));
+        due.no("no more", x.wear(0, 1, 1));
+        due.yes("one place", x.edge(0, 0, 1));
+        due.yes("is told", x.stand(0, 0, 0, 1));
+        due.no("no more", x.stand(0, 0, 1, 1));
     }
 
     private static void promise4Wear() {
@@ -289,6 +317,9 @@ public final class PromisesTest {
             due.is("side", x.at(0, far, 0), -10000);
             due.is("y", x.at(0, 0, far), -10000);
         }
+        x.sail(0, 5, 3, 9, 1);
+        due.is("the head of one strip", x.at(1, 0, 1), 3);
+        due.is("the head of one strip", x.at(1, 1, 1), 9);
         SailLoft cut = loft();
         cut.plan(0);
         due.is("cut", cut.at(0, 1, 10), 10);
@@ -360,6 +391,8 @@ public final class PromisesTest {
         due.is("the other", x.panel(0, 0, 9), 0);
         due.yes("none", x.narrow(0, 1, 0));
         due.is("kind", x.panel(0, 1, 0), 0);
+        due.yes("least", x.narrow(0, 1, 1));
+        due.is("kind", x.panel(0, 1, 0), 1);
         x.sail(0, 5, 0, 5, 10);
         due.no("open", x.narrow(1, 0, 1));
         x.plan(0);
@@ -389,6 +422,9 @@ public final class PromisesTest {
         }
         due.is("41st", x.patch(0, 4, 2, 3), -1);
         due.is("patches", x.told(0, 2), 37);
+        x.undo();
+        due.is("the 41st was no act", x.told(0, 2), 36);
+        due.is("none behind", x.panel(0, 39, 0), -1);
         x.sail(0, 5, 0, 5, 10);
         due.is("open", x.patch(1, 0, 1, 1), -1);
         SailLoft taken = loft();
@@ -483,6 +519,7 @@ public final class PromisesTest {
         x.patch(1, 0, 2, 2);
         x.narrow(1, 0, 9);
         due.is("tapered", x.panel(1, 0, 0), 1);
+        due.is("take needs all", x.take(1), -1);
         due.yes("lay a tapered one", x.lay(1, 0, 2, 0, 0));
         due.yes("lay a panel", x.lay(1, 1, 3, 0, 0));
         due.yes("lay a patch", x.lay(1, 2, 4, 0, 0));
@@ -712,6 +749,12 @@ public final class PromisesTest {
         x.wear(2, 39, 50);
         due.is("worn somewhere", x.fewest(0, 49), 2);
         due.is("not above what is told", x.fewest(0, 50), 1);
+        x.wear(2, 39, 0);
+        x.wear(2, 0, 50);
+        due.is("worn at its first place", x.fewest(0, 49), 2);
+        x.wear(2, 0, 0);
+        due.is("worn nowhere", x.fewest(0, 49), 1);
+        x.wear(2, 39, 50);
         x.bolt(4, 200, 0);
         due.is("too narrow a bolt", x.fewest(0, 49), 2);
         for (int far : FAR) {
@@ -912,6 +955,7 @@ public final class PromisesTest {
         x.cut(1, 20, 1);
         x.set(1, true);
         due.is("two sails", x.push(3), 140 + 2 * 3 + 2 * 4);
+        due.is("below the top", x.push(59), 2 * 59 + 3 * 60);
         due.is("the top", x.push(60), 3 * 60);
         due.is("no height", x.push(61), -1);
         for (int far : FAR) {
@@ -965,6 +1009,15 @@ public final class PromisesTest {
         x.mast(60, 0);
         x.mast(0, 0);
         due.is("no push at all bears", x.bears(), 4);
+        x.wind(0, 1);
+        due.is("the foot", x.bears(), 0);
+        SailLoft y = new SailLoft();
+        y.sail(0, 1, 0, 1, 60);
+        y.cut(0, 20, 1);
+        y.set(0, true);
+        y.wind(59, 1);
+        y.mast(60, 0);
+        due.is("the top", y.bears(), 60);
     }
 
     private static void promise29Least() {
@@ -1002,6 +1055,28 @@ public final class PromisesTest {
         x.least();
         due.is("nothing is changed", x.told(0, 4), 0);
         due.is("nor the push", x.push(5), 20);
+        leastInThreeRounds();
+    }
+
+    private static void leastInThreeRounds() {
+        SailLoft x = new SailLoft();
+        for (int s = 0; s < 10; s++) {
+            x.sail(0, 1, 0, 1, 10);
+            x.cut(s, 20, 1);
+            x.set(s, true);
+            for (int line = 1; line <= 3; line++) {
+                x.line(s, 3 * line);
+            }
+        }
+        x.wind(8, 2);
+        due.is("push", x.push(8), 40);
+        for (int load = 10; load >= 0; load--) {
+            x.mast(8, load);
+            due.is("load " + load, x.least(), load == 10 ? 0 : 20 + 10 - load);
+        }
+        x.wind(9, 2);
+        x.mast(10, 0);
+        due.is("no line takes the last strip", x.least(), -1);
     }
 
     private static void promise30Take() {
@@ -1036,6 +1111,24 @@ public final class PromisesTest {
         due.no("something lies on it", x.row(0, 1));
         widthsAndGramsOfTaken(x);
         takeOfTooMany();
+        takeOfTheLongest();
+    }
+
+    private static void takeOfTheLongest() {
+        SailLoft x = loft();
+        x.sail(0, 200, 0, 200, 5);
+        x.cut(1, 20, 15);
+        due.yes("lay", x.lay(1, 0, 1, 0, 0));
+        due.is("take", x.take(1), 1);
+        due.is("length", x.left(2), 200);
+        x.sail(0, 200, 0, 200, 1);
+        x.cut(2, 20, 19);
+        due.yes("its width is the breadth", x.lay(2, 0, 2, 0, 0));
+        due.is("nothing of it is laid", x.take(0), -1);
+        x.patch(2, 0, 1, 1);
+        x.plan(0);
+        x.lift(2, 0);
+        due.is("the first isn't laid", x.take(2), -1);
     }
 
     private static void widthsAndGramsOfTaken(SailLoft x) {
@@ -1116,6 +1209,9 @@ public final class PromisesTest {
         x.edge(1, 1, 2);
         due.yes("edge", x.undo());
         due.is("at", x.at(1, 1, 2), 13);
+        x.stand(1, 1, 2, 4);
+        due.yes("stand", x.undo());
+        due.is("at", x.at(1, 1, 2), 13);
         due.yes("stand", x.undo());
         due.is("at", x.at(1, 1, 2), 10);
         x.cut(1, 5, 1);
@@ -1124,6 +1220,39 @@ public final class PromisesTest {
         due.yes("still told", x.stand(1, 1, 10, 1));
         undoOnCutSail();
         undoOnMast();
+        undoOfPlans();
+    }
+
+    private static void undoOfPlans() {
+        SailLoft x = new SailLoft();
+        for (int b = 0; b < 24; b++) {
+            x.bolt(2, 200, 0);
+        }
+        for (int s = 0; s < 10; s++) {
+            x.sail(0, 5, 0, 5, 40);
+            x.cut(s, 2, 1);
+        }
+        due.is("plan", x.plan(0), -1);
+        due.is("the last", x.panel(9, 39, 6), 9);
+        due.yes("undo", x.undo());
+        for (int s = 0; s < 10; s++) {
+            due.is("nothing lies", x.panel(s, 0, 6) + x.panel(s, 39, 6), -2);
+            due.is("all is left", x.left(s), 200);
+        }
+        x.lay(0, 0, 0, 0, 0);
+        for (int round = 0; round < 40; round++) {
+            due.yes("lift", x.lift(0, 0));
+            due.is("plan", x.plan(0), -1);
+            x.lift(9, 39);
+            due.is("the last bolt by plan", x.plan(0), -1);
+            due.yes("undo", x.undo());
+            due.is("only the last one was laid", x.panel(9, 38, 6), 9);
+            due.is("it doesn't lie", x.panel(9, 39, 6), -1);
+            due.yes("undo", x.undo());
+            due.yes("undo", x.undo());
+            due.yes("lay", x.lay(0, 0, 23, 195, 0));
+            due.yes("set", x.set(0, round % 2 == 0));
+        }
     }
 
     private static void undoOnCutSail() {
