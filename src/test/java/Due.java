@@ -24,6 +24,10 @@ final class Due {
         is(call, got ? 1 : 0, 0);
     }
 
+    boolean isAllRight() {
+        return wrong == 0;
+    }
+
     void end() {
         System.out.println(seen + " answers, " + wrong + " not as due");
         if (wrong != 0 || seen == 0) {

@@ -47,23 +47,9 @@ public final class PromisesTest {
         due.end();
     }
 
-    private static int bits(float value) {
-        return Float.floatToIntBits(value);
-    }
-
-    /** Two bolts of 20 by 200 with 1 gram, and a sail 10 wide and 10 high that is cut in 3. */
-    private static SailLoft loft() {
-        SailLoft x = new SailLoft();
-        x.bolt(20, 200, bits(1f));
-        x.bolt(20, 200, bits(2f));
-        x.sail(0, 10, 0, 10, 10);
-        x.cut(0, 5, 1);
-        return x;
-    }
-
     private static void promise1New() {
         due.about("1 a new object");
-        SailLoft x = new SailLoft();
+        Loft x = new Loft();
         due.is("count(0)", x.count(0), 0);
         due.is("count(1)", x.count(1), 0);
         due.is("count(2)", x.count(2), 0);
@@ -80,7 +66,7 @@ public final class PromisesTest {
 
     private static void promise2Bolt() {
         due.about("2 bolt");
-        SailLoft x = new SailLoft();
+        Loft x = new Loft();
         due.is("narrow", x.bolt(1, 10, 0), -1);
         due.is("wide", x.bolt(21, 10, 0), -1);
         due.is("short", x.bolt(2, 0, 0), -1);
@@ -91,11 +77,11 @@ public final class PromisesTest {
         }
         due.is("count", x.count(0) + x.count(2), 0);
         due.is("least", x.bolt(2, 1, 0), 0);
-        due.is("most", x.bolt(20, 200, bits(1000f)), 1);
+        due.is("most", x.bolt(20, 200, Lofts.bits(1000f)), 1);
         for (int b = 2; b < 24; b++) {
-            due.is("bolt", x.bolt(5, 5, bits(1f)), b);
+            due.is("bolt", x.bolt(5, 5, Lofts.bits(1f)), b);
         }
-        due.is("25th", x.bolt(5, 5, bits(1f)), -1);
+        due.is("25th", x.bolt(5, 5, Lofts.bits(1f)), -1);
         due.is("count", x.count(0), 24);
     }
 
@@ -104,15 +90,15 @@ public final class PromisesTest {
         float[] wrong = {Float.NaN, Float.POSITIVE_INFINITY, Float.NEGATIVE_INFINITY, -1f,
             -Float.MIN_VALUE, Math.nextUp(1000f), Float.MAX_VALUE};
         for (float grams : wrong) {
-            due.is("bolt of " + grams, new SailLoft().bolt(2, 1, bits(grams)), -1);
+            due.is("bolt of " + grams, new Loft().bolt(2, 1, Lofts.bits(grams)), -1);
         }
-        due.is("another NaN", new SailLoft().bolt(2, 1, 0x7F800001), -1);
-        due.is("a NaN with a sign", new SailLoft().bolt(2, 1, 0xFFC00000), -1);
+        due.is("another NaN", new Loft().bolt(2, 1, 0x7F800001), -1);
+        due.is("a NaN with a sign", new Loft().bolt(2, 1, 0xFFC00000), -1);
         float[] right = {0f, -0f, Float.MIN_VALUE, Float.MIN_NORMAL, Math.nextDown(Float.MIN_NORMAL),
             0.1f, 1f, 2.5f, 3.14159f, 16f, 99.99f, 512f, 999.9999f, 1000f};
         for (float grams : right) {
-            SailLoft x = new SailLoft();
-            due.is("bolt of " + grams, x.bolt(20, 200, bits(grams)), 0);
+            Loft x = new Loft();
+            due.is("bolt of " + grams, x.bolt(20, 200, Lofts.bits(grams)), 0);
             x.sail(0, 7, 0, 7, 13);
             x.cut(0, 20, 1);
             due.yes("lay", x.lay(0, 0, 0, 0, 0));
@@ -122,7 +108,7 @@ public final class PromisesTest {
 
     private static void promise3Row() {
         due.about("3 row");
-        SailLoft x = new SailLoft();
+        Loft x = new Loft();
         x.bolt(5, 20, 0);
         for (int far : FAR) {
             due.no("bolt", x.row(far, 1));
@@ -148,10 +134,10 @@ public final class PromisesTest {
 
     // Longer than undo looks back, so that nothing of an older row may come through.
     private static void rowsAfterManyActs() {
-        SailLoft x = new SailLoft();
+        Loft x = new Loft();
         x.bolt(5, 200, 0);
         x.sail(0, 5, 0, 5, 60);
-        for (int round = 0; round < 60; round++) {
+        for (int round = 0; round < 40; round++) {
             int k = round % 2 == 0 ? 0 : 199;
             due.yes("row", x.row(0, 200));
             due.is("first is 0", x.worn(0, 0), 0);
@@ -175,7 +161,7 @@ public final class PromisesTest {
 
     private static void promise4Wear() {
         due.about("4 wear");
-        SailLoft x = new SailLoft();
+        Loft x = new Loft();
         x.bolt(5, 20, 0);
         due.no("missing row", x.wear(0, 0, 1));
         x.row(0, 10);
@@ -201,7 +187,7 @@ public final class PromisesTest {
 
     private static void promise5Worn() {
         due.about("5 worn");
-        SailLoft x = new SailLoft();
+        Loft x = new Loft();
         x.bolt(5, 20, 0);
         due.is("missing", x.worn(0, 19), 0);
         x.row(0, 3);
@@ -220,7 +206,7 @@ public final class PromisesTest {
 
     private static void promise6Sail() {
         due.about("6 sail");
-        SailLoft x = new SailLoft();
+        Loft x = new Loft();
         int[] wrong = {-501, 501, LOW, HIGH};
         for (int v : wrong) {
             due.is("footLeft", x.sail(v, 0, 0, 0, 1), -1);
@@ -245,7 +231,7 @@ public final class PromisesTest {
 
     private static void promise7Edge() {
         due.about("7 edge");
-        SailLoft x = new SailLoft();
+        Loft x = new Loft();
         x.sail(0, 5, 0, 5, 4);
         for (int far : FAR) {
             due.no("sail", x.edge(far, 0, 1));
@@ -269,7 +255,7 @@ public final class PromisesTest {
 
     private static void promise8Stand() {
         due.about("8 stand");
-        SailLoft x = new SailLoft();
+        Loft x = new Loft();
         x.sail(0, 5, 0, 5, 4);
         x.edge(0, 0, 3);
         x.edge(0, 1, 5);
@@ -297,7 +283,7 @@ public final class PromisesTest {
 
     private static void promise9At() {
         due.about("9 at");
-        SailLoft x = new SailLoft();
+        Loft x = new Loft();
         x.sail(0, 10, -7, 17, 3);
         int[] left = {0, -2, -4, -7};
         int[] right = {10, 12, 14, 17};
@@ -320,7 +306,7 @@ public final class PromisesTest {
         x.sail(0, 5, 3, 9, 1);
         due.is("the head of one strip", x.at(1, 0, 1), 3);
         due.is("the head of one strip", x.at(1, 1, 1), 9);
-        SailLoft cut = loft();
+        Loft cut = Lofts.plain();
         cut.plan(0);
         due.is("cut", cut.at(0, 1, 10), 10);
         cut.take(0);
@@ -329,7 +315,7 @@ public final class PromisesTest {
 
     private static void promise10Cut() {
         due.about("10 cut");
-        SailLoft x = new SailLoft();
+        Loft x = new Loft();
         x.sail(0, 5, 0, 5, 60);
         for (int far : FAR) {
             due.is("sail", x.cut(far, 5, 1), -1);
@@ -359,7 +345,7 @@ public final class PromisesTest {
 
     private static void edgesThatMeet() {
         for (int y = 0; y <= 6; y++) {
-            SailLoft x = new SailLoft();
+            Loft x = new Loft();
             x.sail(0, 5, 0, 5, 6);
             x.edge(0, 0, 7);
             x.stand(0, 0, y, 5);
@@ -371,7 +357,7 @@ public final class PromisesTest {
 
     private static void promise11Narrow() {
         due.about("11 narrow");
-        SailLoft x = loft();
+        Loft x = Lofts.plain();
         int acts = x.count(2);
         for (int far : FAR) {
             due.no("sail", x.narrow(far, 0, 1));
@@ -402,7 +388,7 @@ public final class PromisesTest {
 
     private static void promise12Patch() {
         due.about("12 patch");
-        SailLoft x = loft();
+        Loft x = Lofts.plain();
         for (int far : FAR) {
             due.is("sail", x.patch(far, 0, 1, 1), -1);
             due.is("y", x.patch(0, far, 1, 1), -1);
@@ -427,7 +413,7 @@ public final class PromisesTest {
         due.is("none behind", x.panel(0, 39, 0), -1);
         x.sail(0, 5, 0, 5, 10);
         due.is("open", x.patch(1, 0, 1, 1), -1);
-        SailLoft taken = loft();
+        Loft taken = Lofts.plain();
         taken.plan(0);
         taken.take(0);
         due.is("taken", taken.patch(0, 0, 1, 1), -1);
@@ -435,7 +421,7 @@ public final class PromisesTest {
 
     private static void promise13Told() {
         due.about("13 told");
-        SailLoft x = new SailLoft();
+        Loft x = new Loft();
         x.sail(0, -10, 0, -11, 2);
         int[] open = {0, 0, 0, -41, 0, 0, 0, 0, 2};
         for (int what = 0; what < open.length; what++) {
@@ -447,7 +433,7 @@ public final class PromisesTest {
         }
         due.is("what", x.told(0, 9), -1);
         due.is("no such sail", x.told(1, 0), -1);
-        SailLoft y = loft();
+        Loft y = Lofts.plain();
         y.patch(0, 3, 2, 4);
         y.line(0, 2);
         y.line(0, 10);
@@ -467,7 +453,7 @@ public final class PromisesTest {
 
     private static void promise14Panel() {
         due.about("14 panel");
-        SailLoft x = loft();
+        Loft x = Lofts.plain();
         x.narrow(0, 0, 6);
         x.patch(0, 9, 3, 7);
         x.lay(0, 0, 1, 50, 0);
@@ -497,7 +483,7 @@ public final class PromisesTest {
     }
 
     private static void lengthLooksAtBothEnds() {
-        SailLoft x = new SailLoft();
+        Loft x = new Loft();
         x.sail(0, 5, 0, 5, 8);
         x.edge(0, 0, 9);
         x.edge(0, 1, 9);
@@ -511,7 +497,7 @@ public final class PromisesTest {
     }
 
     private static void kindOld() {
-        SailLoft x = loft();
+        Loft x = Lofts.plain();
         x.plan(0);
         x.take(0);
         x.sail(0, 5, 0, 5, 6);
@@ -534,10 +520,10 @@ public final class PromisesTest {
 
     private static void promise14Weight() {
         due.about("14 weight");
-        SailLoft x = new SailLoft();
-        x.bolt(20, 200, bits(1000f));
-        x.bolt(20, 200, bits(0.3f));
-        x.bolt(20, 200, bits(16f));
+        Loft x = new Loft();
+        x.bolt(20, 200, Lofts.bits(1000f));
+        x.bolt(20, 200, Lofts.bits(0.3f));
+        x.bolt(20, 200, Lofts.bits(16f));
         x.sail(0, 100, 0, 100, 19);
         x.cut(0, 20, 1);
         due.yes("lay", x.lay(0, 0, 0, 0, 0));
@@ -557,7 +543,7 @@ public final class PromisesTest {
 
     private static void promise15Full() {
         due.about("15 full");
-        SailLoft x = loft();
+        Loft x = Lofts.plain();
         x.narrow(0, 0, 5);
         x.narrow(0, 1, 50);
         for (int y = 0; y <= 10; y++) {
@@ -577,7 +563,7 @@ public final class PromisesTest {
 
     private static void promise16Lay() {
         due.about("16 lay");
-        SailLoft x = new SailLoft();
+        Loft x = new Loft();
         x.bolt(5, 30, 0);
         x.bolt(4, 30, 0);
         x.row(0, 25);
@@ -622,7 +608,7 @@ public final class PromisesTest {
 
     private static void promise17Lift() {
         due.about("17 lift");
-        SailLoft x = loft();
+        Loft x = Lofts.plain();
         due.no("not laid", x.lift(0, 0));
         x.lay(0, 0, 0, 5, 0);
         for (int far : FAR) {
@@ -643,7 +629,7 @@ public final class PromisesTest {
 
     private static void promise18Left() {
         due.about("18 left");
-        SailLoft x = loft();
+        Loft x = Lofts.plain();
         due.is("all", x.left(0), 200);
         x.lay(0, 0, 0, 5, 0);
         x.lay(0, 1, 0, 100, 0);
@@ -659,7 +645,7 @@ public final class PromisesTest {
 
     private static void promise19Over() {
         due.about("19 over");
-        SailLoft x = loft();
+        Loft x = Lofts.plain();
         for (int s = 1; s < 10; s++) {
             x.sail(0, 1, 0, 1, 40);
         }
@@ -680,7 +666,7 @@ public final class PromisesTest {
 
     private static void promise20Plan() {
         due.about("20 plan");
-        SailLoft x = new SailLoft();
+        Loft x = new Loft();
         x.bolt(2, 100, 0);
         x.bolt(5, 25, 0);
         x.bolt(5, 100, 0);
@@ -711,7 +697,7 @@ public final class PromisesTest {
     }
 
     private static void planThatEnds() {
-        SailLoft x = new SailLoft();
+        Loft x = new Loft();
         x.bolt(5, 25, 0);
         x.sail(0, 4, 0, 4, 4);
         x.cut(0, 5, 1);
@@ -735,7 +721,7 @@ public final class PromisesTest {
 
     private static void promise21Fewest() {
         due.about("21 fewest");
-        SailLoft x = new SailLoft();
+        Loft x = new Loft();
         x.sail(0, 10, 0, 10, 16);
         due.is("open", x.fewest(0, 0), -1);
         x.cut(0, 5, 1);
@@ -785,7 +771,7 @@ public final class PromisesTest {
     // The greatest bolts first, or the greatest pieces first, would not find these.
     private static void promise21FewestOfManyBolts() {
         due.about("21 fewest of many");
-        SailLoft x = new SailLoft();
+        Loft x = new Loft();
         x.bolt(20, 10, 0);
         x.sail(0, 1, 0, 1, 1);
         x.cut(0, 2, 1);
@@ -808,7 +794,7 @@ public final class PromisesTest {
         x.undo();
         x.bolt(20, 39, 0);
         due.is("the broad one and another", x.fewest(0, 0), 2);
-        SailLoft y = new SailLoft();
+        Loft y = new Loft();
         y.sail(0, 9, 0, 9, 8);
         y.cut(0, 2, 1);
         for (int b = 0; b < 7; b++) {
@@ -823,7 +809,7 @@ public final class PromisesTest {
 
     private static void promise22Mast() {
         due.about("22 mast");
-        SailLoft x = new SailLoft();
+        Loft x = new Loft();
         for (int far : FAR) {
             due.no("k", x.mast(far, 0));
         }
@@ -849,7 +835,7 @@ public final class PromisesTest {
 
     private static void promise23Wind() {
         due.about("23 wind");
-        SailLoft x = loft();
+        Loft x = Lofts.plain();
         x.set(0, true);
         int acts = x.count(2);
         for (int far : FAR) {
@@ -869,7 +855,7 @@ public final class PromisesTest {
 
     private static void promise24Set() {
         due.about("24 set");
-        SailLoft x = loft();
+        Loft x = Lofts.plain();
         due.no("it is so", x.set(0, false));
         due.yes("set", x.set(0, true));
         due.is("told", x.told(0, 5), 1);
@@ -889,7 +875,7 @@ public final class PromisesTest {
 
     private static void promise25Reef() {
         due.about("25 reef");
-        SailLoft x = loft();
+        Loft x = Lofts.plain();
         due.no("it is there", x.reef(0, 0));
         due.yes("reef", x.reef(0, 10));
         due.is("told", x.told(0, 4), 10);
@@ -909,7 +895,7 @@ public final class PromisesTest {
 
     private static void promise26Line() {
         due.about("26 line");
-        SailLoft x = loft();
+        Loft x = Lofts.plain();
         x.sail(0, 5, 0, 5, 5);
         for (int far : FAR) {
             due.is("sail", x.line(far, 1), -1);
@@ -928,12 +914,12 @@ public final class PromisesTest {
         x.undo();
         due.is("undone", x.line(1, 2), 1);
         due.is("then above", x.line(1, 3), 2);
-        SailLoft y = loft();
+        Loft y = Lofts.plain();
         for (int line = 1; line <= 3; line++) {
             y.line(0, line);
         }
         due.is("a fourth above", y.line(0, 4), -1);
-        SailLoft taken = loft();
+        Loft taken = Lofts.plain();
         taken.plan(0);
         taken.take(0);
         due.is("taken", taken.line(0, 1), -1);
@@ -941,7 +927,7 @@ public final class PromisesTest {
 
     private static void promise27Push() {
         due.about("27 push");
-        SailLoft x = loft();
+        Loft x = Lofts.plain();
         for (int y = 0; y < 60; y++) {
             x.wind(y, y + 1);
         }
@@ -973,7 +959,7 @@ public final class PromisesTest {
     }
 
     private static void greatPush() {
-        SailLoft x = new SailLoft();
+        Loft x = new Loft();
         x.wind(0, 1000);
         x.wind(1, 1000);
         for (int s = 0; s < 10; s++) {
@@ -996,7 +982,7 @@ public final class PromisesTest {
 
     private static void promise28Bears() {
         due.about("28 bears");
-        SailLoft x = loft();
+        Loft x = Lofts.plain();
         x.set(0, true);
         x.wind(4, 3);
         due.is("all", x.bears(), -1);
@@ -1011,7 +997,7 @@ public final class PromisesTest {
         due.is("no push at all bears", x.bears(), 4);
         x.wind(0, 1);
         due.is("the foot", x.bears(), 0);
-        SailLoft y = new SailLoft();
+        Loft y = new Loft();
         y.sail(0, 1, 0, 1, 60);
         y.cut(0, 20, 1);
         y.set(0, true);
@@ -1022,7 +1008,7 @@ public final class PromisesTest {
 
     private static void promise29Least() {
         due.about("29 least");
-        SailLoft x = new SailLoft();
+        Loft x = new Loft();
         for (int s = 0; s < 3; s++) {
             x.sail(0, 10, 0, 10, 10);
             x.cut(s, 5, 1);
@@ -1059,7 +1045,7 @@ public final class PromisesTest {
     }
 
     private static void leastInThreeRounds() {
-        SailLoft x = new SailLoft();
+        Loft x = new Loft();
         for (int s = 0; s < 10; s++) {
             x.sail(0, 1, 0, 1, 10);
             x.cut(s, 20, 1);
@@ -1081,7 +1067,7 @@ public final class PromisesTest {
 
     private static void promise30Take() {
         due.about("30 take");
-        SailLoft x = loft();
+        Loft x = Lofts.plain();
         x.patch(0, 0, 1, 7);
         due.is("not all is laid", x.take(0), -1);
         x.lay(0, 0, 0, 0, 0);
@@ -1115,7 +1101,7 @@ public final class PromisesTest {
     }
 
     private static void takeOfTheLongest() {
-        SailLoft x = loft();
+        Loft x = Lofts.plain();
         x.sail(0, 200, 0, 200, 5);
         x.cut(1, 20, 15);
         due.yes("lay", x.lay(1, 0, 1, 0, 0));
@@ -1131,7 +1117,7 @@ public final class PromisesTest {
         due.is("the first isn't laid", x.take(2), -1);
     }
 
-    private static void widthsAndGramsOfTaken(SailLoft x) {
+    private static void widthsAndGramsOfTaken(Loft x) {
         x.sail(0, 1, 0, 1, 1);
         x.cut(1, 2, 1);
         int[] widths = {5, 5, 3, 2};
@@ -1147,7 +1133,7 @@ public final class PromisesTest {
     }
 
     private static void takeOfTooMany() {
-        SailLoft x = loft();
+        Loft x = Lofts.plain();
         for (int i = 3; i < 23; i++) {
             x.patch(0, 0, 1, 1);
         }
@@ -1155,7 +1141,7 @@ public final class PromisesTest {
         due.is("25 bolts", x.take(0), -1);
         due.is("nothing done", x.told(0, 0), 1);
         due.is("nothing done", x.count(0), 2);
-        SailLoft y = loft();
+        Loft y = Lofts.plain();
         for (int i = 3; i < 22; i++) {
             y.patch(0, 0, 1, 1);
         }
@@ -1168,7 +1154,7 @@ public final class PromisesTest {
 
     private static void promise31Old() {
         due.about("31 old");
-        SailLoft x = loft();
+        Loft x = Lofts.plain();
         x.sail(0, 10, 0, 10, 3);
         x.cut(1, 5, 1);
         x.plan(0);
@@ -1190,7 +1176,7 @@ public final class PromisesTest {
 
     private static void promise32UndoEach() {
         due.about("32 undo");
-        SailLoft x = loft();
+        Loft x = Lofts.plain();
         x.row(0, 5);
         x.wear(0, 1, 9);
         x.wear(0, 1, 8);
@@ -1224,7 +1210,7 @@ public final class PromisesTest {
     }
 
     private static void undoOfPlans() {
-        SailLoft x = new SailLoft();
+        Loft x = new Loft();
         for (int b = 0; b < 24; b++) {
             x.bolt(2, 200, 0);
         }
@@ -1240,7 +1226,7 @@ public final class PromisesTest {
             due.is("all is left", x.left(s), 200);
         }
         x.lay(0, 0, 0, 0, 0);
-        for (int round = 0; round < 40; round++) {
+        for (int round = 0; round < 30; round++) {
             due.yes("lift", x.lift(0, 0));
             due.is("plan", x.plan(0), -1);
             x.lift(9, 39);
@@ -1256,7 +1242,7 @@ public final class PromisesTest {
     }
 
     private static void undoOnCutSail() {
-        SailLoft x = loft();
+        Loft x = Lofts.plain();
         x.narrow(0, 0, 3);
         x.narrow(0, 0, 4);
         due.yes("narrow", x.undo());
@@ -1296,7 +1282,7 @@ public final class PromisesTest {
     }
 
     private static void undoOnMast() {
-        SailLoft x = loft();
+        Loft x = Lofts.plain();
         x.mast(1, 7);
         x.wind(1, 7);
         x.set(0, true);
@@ -1328,7 +1314,7 @@ public final class PromisesTest {
 
     private static void promise32UndoLimit() {
         due.about("32 undo, 16 acts");
-        SailLoft x = new SailLoft();
+        Loft x = new Loft();
         x.bolt(5, 100, 0);
         x.row(0, 100);
         for (int v = 1; v <= 30; v++) {
@@ -1351,7 +1337,7 @@ public final class PromisesTest {
 
     private static void promise33Count() {
         due.about("33 count");
-        SailLoft x = loft();
+        Loft x = Lofts.plain();
         due.is("bolts", x.count(0), 2);
         due.is("sails", x.count(1), 1);
         due.is("acts", x.count(2), 4);

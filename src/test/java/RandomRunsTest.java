@@ -2,12 +2,12 @@ import java.util.Random;
 
 /** The same random calls to SailLoft and to NaiveLoft; the seeds are fixed, so runs repeat. */
 public final class RandomRunsTest {
-    private static final int RUNS = 400;
-    private static final int CALLS = 500;
+    private static final int RUNS = 4000;
+    private static final int LAST_QUESTIONS = 100;
 
     private final Random random;
     private final Due due;
-    private final SailLoft x = new SailLoft();
+    private final Loft x = new Loft();
     private final NaiveLoft n = new NaiveLoft();
     private final int style;
 
@@ -19,13 +19,15 @@ public final class RandomRunsTest {
 
     public static void main(String[] args) {
         Due due = new Due();
-        for (int run = 0; run < RUNS; run++) {
+        for (int run = 0; run < RUNS && due.isAllRight(); run++) {
             due.about("random run " + run);
             RandomRunsTest test = new RandomRunsTest(run, due);
-            for (int call = 0; call < CALLS; call++) {
+            while (due.isAllRight() && test.x.callsLeft() > LAST_QUESTIONS) {
                 test.anyCall();
             }
-            test.compareAll();
+            while (due.isAllRight() && test.x.callsLeft() > 0) {
+                test.ask();
+            }
         }
         due.end();
     }
@@ -89,32 +91,32 @@ public final class RandomRunsTest {
 
     private void check(String call, long got, long want) {
         due.is(call, got, want);
+        if (got != want) {
+            System.out.println(x.run());
+        }
     }
 
     private void check(String call, boolean got, boolean want) {
-        due.is(call, got ? 1 : 0, want ? 1 : 0);
+        check(call, got ? 1 : 0, want ? 1 : 0);
     }
 
     private void anyCall() {
         int dice = random.nextInt(100);
-        if (dice < 12) {
+        if (dice < 13) {
             makeSomething();
-        } else if (dice < 30) {
+        } else if (dice < 33) {
             shape();
-        } else if (dice < 52) {
+        } else if (dice < 57) {
             layOrLift();
-        } else if (dice < 66) {
+        } else if (dice < 72) {
             sailIt();
-        } else if (dice < (style == 0 ? 84 : 72)) {
+        } else if (dice < (style == 0 ? 90 : 78)) {
             check("undo", x.undo(), n.undo());
-        } else if (dice < 75) {
+        } else if (dice < 81) {
             int sail = sail();
             check("take", x.take(sail), n.take(sail));
         } else {
             ask();
-        }
-        if (random.nextInt(25) == 0) {
-            compareAll();
         }
     }
 
@@ -242,54 +244,85 @@ public final class RandomRunsTest {
     }
 
     private void ask() {
-        int sail = sail();
-        int bolt = bolt();
-        int worn = worn();
-        int y = about(0, height(sail));
-        int k = about(0, 199);
-        check("worn", x.worn(bolt, k), n.worn(bolt, k));
-        check("over", x.over(bolt, k), n.over(bolt, k));
-        check("left", x.left(bolt), n.left(bolt));
-        check("old", x.old(bolt), n.old(bolt));
-        check("at", x.at(sail, 0, y), n.at(sail, 0, y));
-        check("full", x.full(sail, y), n.full(sail, y));
-        check("fewest", x.fewest(sail, worn), n.fewest(sail, worn));
-        check("push", x.push(y), n.push(y));
-        check("bears", x.bears(), n.bears());
-        check("least", x.least(), n.least());
+        switch (random.nextInt(3)) {
+            case 0:
+                askOfABolt();
+                break;
+            case 1:
+                askOfASail();
+                break;
+            default:
+                askOfTheWhole();
+                break;
+        }
     }
 
-    private void compareAll() {
-        for (int what = -1; what <= 3; what++) {
-            check("count", x.count(what), n.count(what));
+    private void askOfABolt() {
+        int bolt = bolt();
+        int k = random.nextBoolean() ? about(0, 199) : about(0, 20);
+        switch (random.nextInt(6)) {
+            case 0:
+            case 1:
+                check("worn", x.worn(bolt, k), n.worn(bolt, k));
+                break;
+            case 2:
+            case 3:
+                check("over", x.over(bolt, k), n.over(bolt, k));
+                break;
+            case 4:
+                check("left", x.left(bolt), n.left(bolt));
+                break;
+            default:
+                check("old", x.old(bolt), n.old(bolt));
+                break;
         }
-        for (int b = 0; b < n.count(0); b++) {
-            check("left", x.left(b), n.left(b));
-            check("old", x.old(b), n.old(b));
-            for (int k = 0; k <= 200; k += 7) {
-                check("worn", x.worn(b, k), n.worn(b, k));
-                check("over", x.over(b, k), n.over(b, k));
-            }
+    }
+
+    private void askOfASail() {
+        int sail = sail();
+        int y = about(0, height(sail));
+        int side = about(0, 1);
+        int i = piece(sail);
+        int what = about(0, 9);
+        int worn = worn();
+        switch (random.nextInt(9)) {
+            case 0:
+                check("at", x.at(sail, side, y), n.at(sail, side, y));
+                break;
+            case 1:
+                check("full", x.full(sail, y), n.full(sail, y));
+                break;
+            case 2:
+                check("fewest", x.fewest(sail, worn), n.fewest(sail, worn));
+                break;
+            case 3:
+            case 4:
+                check("told", x.told(sail, what), n.told(sail, what));
+                break;
+            default:
+                check("panel", x.panel(sail, i, what), n.panel(sail, i, what));
+                break;
         }
-        for (int s = 0; s < n.count(1); s++) {
-            for (int what = -1; what <= 9; what++) {
-                check("told", x.told(s, what), n.told(s, what));
-            }
-            for (int y = 0; y <= height(s); y++) {
-                check("at", x.at(s, 0, y), n.at(s, 0, y));
-                check("at", x.at(s, 1, y), n.at(s, 1, y));
-                check("full", x.full(s, y), n.full(s, y));
-            }
-            for (int i = 0; i <= n.told(s, 1) + n.told(s, 2); i++) {
-                for (int what = 0; what <= 10; what++) {
-                    check("panel", x.panel(s, i, what), n.panel(s, i, what));
-                }
-            }
+    }
+
+    private void askOfTheWhole() {
+        int k = about(0, 60);
+        int what = about(0, 2);
+        switch (random.nextInt(6)) {
+            case 0:
+                check("count", x.count(what), n.count(what));
+                break;
+            case 1:
+            case 2:
+            case 3:
+                check("push", x.push(k), n.push(k));
+                break;
+            case 4:
+                check("bears", x.bears(), n.bears());
+                break;
+            default:
+                check("least", x.least(), n.least());
+                break;
         }
-        for (int k = 0; k <= 60; k++) {
-            check("push", x.push(k), n.push(k));
-        }
-        check("bears", x.bears(), n.bears());
-        check("least", x.least(), n.least());
     }
 }
