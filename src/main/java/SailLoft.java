@@ -419,7 +419,9 @@ public final class SailLoft {
         }
         for (int s = 0; s < sailCount; s++) {
             Sail of = sailAt(s);
-            triedReefs[s] = of == null ? 0 : of.reef;
+            if (of != null) {
+                triedReefs[s] = of.reef;
+            }
         }
         int taken = 0;
         for (int round = 0; round < MOST_LINES; round++) {

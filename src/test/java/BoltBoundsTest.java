@@ -21,6 +21,7 @@ public final class BoltBoundsTest {
         rowOfNoSuchBolt();
         rowOfWhatSomethingLiesOn();
         rowIsAll0();
+        rowIsAll0AfterManyActs();
         rowOf0IsMissing();
         placesToWear();
         howFarToWear();
@@ -230,6 +231,21 @@ public final class BoltBoundsTest {
             for (int k = 0; k < 30; k++) {
                 due.is("worn " + k, x.worn(1, k), 0);
             }
+        }
+    }
+
+    private static void rowIsAll0AfterManyActs() {
+        due.about("3 all 0, whatever rows there were");
+        Loft x = new Loft();
+        x.bolt(5, 200, 0);
+        for (int round = 0; round < 40; round++) {
+            int k = round % 3 * 99;
+            due.yes("row", x.row(0, 200));
+            for (int told = 0; told < 200; told += 99) {
+                due.is("worn " + told, x.worn(0, told), 0);
+            }
+            due.yes("wear", x.wear(0, k, 100));
+            due.is("worn", x.worn(0, k), 100);
         }
     }
 

@@ -102,12 +102,13 @@ final class Bounds {
         range(text, start, call, least, most, 1, 0);
     }
 
-    // The first view is that of how many acts there are.
+    // The first view is that of how many acts there are; one bolt and one sail more than there are
+    // show what undo should have taken away.
     private static List<Consumer<Loft>> viewsOf(Start start) {
         Loft x = start.make();
         List<Consumer<Loft>> views = new ArrayList<>();
         views.add(Look::acts);
-        views.addAll(Look.views(x.count(0), x.count(1)));
+        views.addAll(Look.views(x.count(0) + 1, x.count(1) + 1));
         return views;
     }
 

@@ -375,6 +375,8 @@ public final class CutBoundsTest {
         due.is("1.99", weight(1.99f, 1, 1), 1);
         due.is("nothing", weight(0f, 20, 100), 0);
         due.is("nearly nothing", weight(Float.MIN_VALUE, 20, 100), 0);
+        due.is("a third thrice", weight(1f / 3f, 1, 3), 1);
+        due.is("nearly a third thrice", weight(Math.nextDown(1f / 3f), 1, 3), 0);
         due.is("as a float", weight(16.1f, 19, 97), (int) (16.1f * 3686f / 2f));
         due.is("as a float", weight(123.456f, 20, 99), (int) (123.456f * 3960f / 2f));
         Loft x = new Loft();

@@ -32,7 +32,8 @@ public final class LanguageTest {
     };
     private static final String CALLS = "\\b(Arrays|Math|StrictMath|System|Integer|Long)\\.(\\w+)";
     private static final String ALLOWED = "Arrays\\.(fill|copyOf|copyOfRange)|System\\.arraycopy"
-        + "|Math\\.(min|max|abs|floorDiv|floorMod)|(Integer|Long)\\.(compare|min|max|bitCount|MAX_VALUE|MIN_VALUE)";
+        + "|Math\\.(min|max|abs|floorDiv|floorMod)"
+        + "|(Integer|Long)\\.(compare|min|max|bitCount|MAX_VALUE|MIN_VALUE)";
 
     private static final Due due = new Due();
 

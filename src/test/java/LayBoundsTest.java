@@ -429,25 +429,25 @@ public final class LayBoundsTest {
 
     private static void planOfAllThereCanBe() {
         due.about("20 ten sails of 40 each");
-        Bounds.Start start = () -> {
-            Loft x = new Loft();
-            for (int b = 0; b < 24; b++) {
-                x.bolt(2, 200, 0);
-            }
-            for (int s = 0; s < 10; s++) {
-                x.sail(0, 12, 0, 12, 40);
-                x.cut(s, 2, 1);
-            }
-            return x;
-        };
-        bounds.act("384 of them fit", start, x -> x.plan(0), 924);
-        Loft x = start.make();
-        x.plan(0);
+        Loft x = new Loft();
+        for (int b = 0; b < 24; b++) {
+            x.bolt(2, 200, 0);
+        }
+        for (int s = 0; s < 10; s++) {
+            x.sail(0, 12, 0, 12, 40);
+            x.cut(s, 2, 1);
+        }
+        due.is("384 of them fit", x.plan(0), 924);
         due.is("the last that fits", x.panel(9, 23, 6), 23);
         due.is("its place", x.panel(9, 23, 7), 180);
         due.is("the first that doesn't", x.panel(9, 24, 6), -1);
         for (int b = 0; b < 24; b++) {
             due.is("left", x.left(b), 8);
+        }
+        due.yes("undo", x.undo());
+        due.is("the last doesn't lie any more", x.panel(9, 23, 6), -1);
+        for (int b = 0; b < 24; b++) {
+            due.is("all is left", x.left(b), 200);
         }
     }
 
@@ -597,7 +597,7 @@ public final class LayBoundsTest {
         }
         due.is("what can be undone is", x.count(2), 0);
         Loft eight = new Loft();
-        for (int b = 0; b < 24; b++) {
+        for (int b = 0; b < 9; b++) {
             eight.bolt(2, 19, 0);
         }
         eight.sail(0, 10, 0, 10, 8);
@@ -609,6 +609,14 @@ public final class LayBoundsTest {
 
     private static void fewestIsTheLeast() {
         due.about("21 the least number");
+        Loft two = new Loft();
+        two.bolt(5, 20, 0);
+        two.bolt(5, 20, 0);
+        two.sail(0, 10, 0, 10, 16);
+        two.cut(0, 5, 1);
+        due.is("two and two", two.fewest(0, 0), 2);
+        two.bolt(5, 40, 0);
+        due.is("all on a later one", two.fewest(0, 0), 1);
         Loft x = new Loft();
         int[] bolts = {10, 10, 10, 12, 12};
         for (int length : bolts) {

@@ -18,6 +18,7 @@ public final class SailBoundsTest {
         edgeOfNoSuchSail();
         edgeOfWhatIsNotOpen();
         edgeIsAll0();
+        edgeIsAll0AfterManyActs();
         edgeOf0IsMissing();
         placesToStand();
         howFarToStand();
@@ -189,6 +190,20 @@ public final class SailBoundsTest {
         Loft x = openWithRows();
         x.edge(1, 0, 1);
         due.is("the other side stays", x.at(1, 1, 1), 13);
+    }
+
+    private static void edgeIsAll0AfterManyActs() {
+        due.about("7 all 0, whatever rows there were");
+        Loft x = new Loft();
+        x.sail(0, 5, 0, 5, 60);
+        for (int round = 0; round < 40; round++) {
+            int side = round % 2;
+            due.yes("edge", x.edge(0, side, 61));
+            for (int y = 0; y <= 60; y += 30) {
+                due.is("at " + y, x.at(0, side, y), 5 * side);
+            }
+            due.yes("stand", x.stand(0, side, round % 3 * 30, -200));
+        }
     }
 
     private static void edgeOf0IsMissing() {
