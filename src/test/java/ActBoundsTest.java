@@ -78,6 +78,9 @@ public final class ActBoundsTest {
     private static Bounds.Start laidBeside(int bolts) {
         return () -> {
             Loft x = allLaid();
+            x.set(0, true);
+            x.line(0, 4);
+            x.reef(0, 2);
             for (int b = 2; b < bolts; b++) {
                 x.bolt(2, b, 0);
             }

@@ -2,7 +2,7 @@ import java.util.ArrayList;
 import java.util.List;
 import java.util.function.Consumer;
 
-/** All that calls can tell of a loft, in views of less than 300 calls: each is used on an object of its
+/** All that calls can tell of a loft, in views of less than 400 calls: each is used on an object of its
  *  own, so a view may change what it looks at. */
 final class Look {
     private static final int PLACES = 200;
@@ -27,7 +27,8 @@ final class Look {
             views.add(x -> heights(x, sail));
             views.add(x -> pieces(x, sail, 0, 4));
             views.add(x -> pieces(x, sail, 5, 9));
-            views.add(x -> rowEndsAndLines(x, sail));
+            views.add(x -> rowEnds(x, sail));
+            views.add(x -> reefLines(x, sail));
         }
         return views;
     }
@@ -108,11 +109,30 @@ final class Look {
         }
     }
 
-    private static void rowEndsAndLines(Loft x, int sail) {
+    private static void rowEnds(Loft x, int sail) {
         for (int y = 0; y <= HEIGHTS + 1; y++) {
             x.stand(sail, 0, y, 0);
             x.stand(sail, 1, y, 0);
-            x.line(sail, y);
+        }
+    }
+
+    // With this sail alone in a wind at one strip, and a mast that bears nothing, the reefs that are
+    // needed tell which REEF LINE is the first above that strip.
+    private static void reefLines(Loft x, int sail) {
+        x.cut(sail, 20, 1);
+        for (int s = 0; s < x.count(1); s++) {
+            x.set(s, s == sail);
+        }
+        x.reef(sail, 0);
+        for (int k = 0; k <= HEIGHTS; k++) {
+            x.mast(k, 0);
+            x.wind(k, 0);
+        }
+        int height = x.told(sail, 8);
+        for (int y = 0; y < height; y++) {
+            x.wind(y, 1);
+            x.least();
+            x.wind(y, 0);
         }
     }
 }

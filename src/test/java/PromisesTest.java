@@ -49,6 +49,7 @@ public final class PromisesTest {
 
     private static void promise1New() {
         due.about("1 a new object");
+        due.is("NONE", SailLoft.NONE, -1);
         Loft x = new Loft();
         due.is("count(0)", x.count(0), 0);
         due.is("count(1)", x.count(1), 0);
