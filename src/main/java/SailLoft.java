@@ -8,6 +8,7 @@ public final class SailLoft {
     private static final int NO_PLAN = -2;
 
     private static final int MOST_BOLTS = 24;
+    private static final int LEAST_WIDTH = 2;
     private static final int MOST_WIDTH = 20;
     private static final int MOST_LENGTH = 200;
     private static final int MOST_WORN = 100;
@@ -77,7 +78,8 @@ public final class SailLoft {
     // ---- bolts
 
     public int bolt(int width, int length, int grams) {
-        if (!within(width, 2, MOST_WIDTH) || !within(length, 1, MOST_LENGTH) || !areGrams(grams)) {
+        if (!within(width, LEAST_WIDTH, MOST_WIDTH)
+                || !within(length, 1, MOST_LENGTH) || !areGrams(grams)) {
             return NONE;
         }
         int number = addBolt(width, length, floatOf(grams), NONE);
@@ -183,7 +185,7 @@ public final class SailLoft {
 
     public int cut(int sail, int w, int seam) {
         Sail of = sailIn(sail, OPEN);
-        if (of == null || !within(w, 2, MOST_WIDTH) || !within(seam, 1, w - 1)) {
+        if (of == null || !within(w, LEAST_WIDTH, MOST_WIDTH) || !within(seam, 1, w - 1)) {
             return NONE;
         }
         int step = w - seam;
@@ -308,8 +310,10 @@ public final class SailLoft {
         Act act = null;
         for (int s = 0; s < sailCount; s++) {
             Sail of = sailIn(s, CUT);
-            int pieces = of == null ? 0 : of.pieceCount();
-            for (int i = 0; i < pieces; i++) {
+            if (of == null) {
+                continue;
+            }
+            for (int i = 0; i < of.pieceCount(); i++) {
                 Piece piece = of.pieceAt(i);
                 if (piece == null || piece.isLaid()) {
                     continue;
@@ -447,13 +451,7 @@ public final class SailLoft {
         }
         int pieces = of.pieceCount();
         for (int i = 0; i < pieces; i++) {
-            Piece piece = of.pieceAt(i);
-            Bolt under = piece == null ? null : boltAt(piece.bolt);
-            if (under != null) {
-                int width = Math.max(piece.breadth, 2);
-                int length = Math.min(piece.length, MOST_LENGTH);
-                addBolt(width, length, under.grams, sail);
-            }
+            addOldBolt(of.pieceAt(i), sail);
         }
         Act act = log.begin(DID_TAKE, sail, NONE);
         act.was = of.isSet ? 1 : 0;
@@ -588,6 +586,18 @@ public final class SailLoft {
         return number;
     }
 
+    private void addOldBolt(Piece piece, int from) {
+        if (piece == null) {
+            return;
+        }
+        Bolt under = boltAt(piece.bolt);
+        if (under != null) {
+            int width = Math.max(piece.breadth, LEAST_WIDTH);
+            int length = Math.min(piece.length, MOST_LENGTH);
+            addBolt(width, length, under.grams, from);
+        }
+    }
+
     private void layPiece(int sail, int i, Piece piece, int bolt, int place) {
         Bolt on = boltAt(bolt);
         if (on != null) {
@@ -715,8 +725,10 @@ public final class SailLoft {
     private void undoPlan(Act act) {
         for (int s = 0; s < sailCount; s++) {
             Sail of = sailAt(s);
-            int pieces = of == null ? 0 : of.pieceCount();
-            for (int i = 0; i < pieces; i++) {
+            if (of == null) {
+                continue;
+            }
+            for (int i = 0; i < of.pieceCount(); i++) {
                 Piece piece = of.pieceAt(i);
                 if (piece != null && act.hasLaid(s, i)) {
                     liftPiece(piece);
@@ -1148,7 +1160,8 @@ public final class SailLoft {
             return true;
         }
 
-        // Sets fall, so that what a set leaves over has not been given this bolt yet.
+        // Sets fall, so that what a set leaves over has not been given this bolt yet. So do the
+        // parts of each: (part - 1) & all is the next lower one, which is 0 at last.
         void offer(int width, int length) {
             for (int all = (1 << pieces) - 1; all > 0; all--) {
                 int fewest = needed[all];
